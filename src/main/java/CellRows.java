@@ -311,7 +311,7 @@ public final class CellRows {
         }
         keepFor(ACT_LEGAL);
         plan.copyFrom(paper);
-        return movesOfLoose(plan.cells);
+        return movesOf(plan.cells);
     }
 
     public int windows(int k) {
@@ -447,7 +447,7 @@ public final class CellRows {
                 lookAtGroundAndBins();
                 return analytic.costOf(plan);
             case 4:
-                return movesOfPlaced(plan.cells);
+                return movesOf(plan.cells);
             case 5:
                 return plan.cells.withoutSpot();
             default:
@@ -531,7 +531,7 @@ public final class CellRows {
         if (!packing.makeLawful(paper)) {
             return what == 0 ? NO_ROOM : NONE;
         }
-        return what == 0 ? movesOfLoose(paper.cells) : wire.wireOf(paper);
+        return what == 0 ? movesOf(paper.cells) : wire.wireOf(paper);
     }
 
     public int fillers(int width) {
@@ -669,17 +669,8 @@ public final class CellRows {
         return what == 7 ? fullest : bins.crowded();
     }
 
-    private int movesOfLoose(Cells cells) {
-        int moves = 0;
-        for (int cell = 0; cell < cells.size; cell++) {
-            if (cells.isLooseAndPlaced(cell)) {
-                moves += cells.moveOf(cell, terms[TALL]);
-            }
-        }
-        return moves;
-    }
-
-    private int movesOfPlaced(Cells cells) {
+    /** MOVES of all CELLS with SPOTS; FIXED ones lie at their WANTS and bring nothing. */
+    private int movesOf(Cells cells) {
         int moves = 0;
         for (int cell = 0; cell < cells.size; cell++) {
             if (cells.isPlaced(cell)) {
