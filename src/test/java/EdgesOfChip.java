@@ -271,6 +271,7 @@ final class EdgesOfChip extends Checks {
         promise5BarredThoseThatTheChipHas();
         promise5FixedWouldBeBarred();
         promise5LooseLoseTheirSpots();
+        promise5OfTwentyCellsTheLast();
         promise5FirstReason();
     }
 
@@ -363,6 +364,13 @@ final class EdgesOfChip extends Checks {
         due("from behind it on", x.block(0, 0, 8, 8, 1), 2);
         due("above it", x.block(1, 1, 4, 6, 4), 3);
         spotDue(x, 1, 0, 4);
+        for (int fixed : new int[] {0, 9, 19}) {
+            refused(-4, "whichever it is: " + fixed, () -> {
+                CellRows full = twentyCells();
+                full.fix(fixed, 1, 9);
+                return full;
+            }, full -> full.block(0, 1, 9, 9, 0));
+        }
     }
 
     private static void promise5LooseLoseTheirSpots() {
@@ -388,6 +396,20 @@ final class EdgesOfChip extends Checks {
         due("undone", x.undo(), 0);
         spotDue(x, 1, 0, 4);
         spotDue(x, 2, 0, 7);
+    }
+
+    private static void promise5OfTwentyCellsTheLast() {
+        says(5, "LOOSE CELLS whose SPOTS are not LAWFUL any more");
+        CellRows x = twentyCells();
+        for (int cell = 0; cell < 20; cell++) {
+            x.put(cell, cell / 16, cell % 16);
+        }
+        due("over the last of twenty", x.block(1, 1, 3, 3, 0), 0);
+        spotDue(x, 19, NONE, NONE);
+        spotDue(x, 18, 1, 2);
+        due("a fence over the one ahead of it", x.fence(1, 1, 2, 2), 0);
+        spotDue(x, 18, NONE, NONE);
+        due("two have none", x.measure(5), 2);
     }
 
     private static void promise5FirstReason() {
@@ -606,7 +628,7 @@ final class EdgesOfChip extends Checks {
     private static CellRows sixteenNets() {
         CellRows x = withCells(2, 8, 1, 1);
         for (int number = 0; number < 16; number++) {
-            net(x, 1, 0, 0, 200, number % 8);
+            net(x, 1, number % 2, 0, 200 + number / 8, number % 8);
         }
         tape(x, 0, 0, 1, 0);
         return x;
@@ -790,14 +812,22 @@ final class EdgesOfChip extends Checks {
             due("pins", x.drop(gone), 2);
             due("how many", x.count(5), 15);
             for (int net = 0; net < 15; net++) {
-                due("site of net " + net, x.netOf(net, 13), (net < gone ? net : net + 1) % 8);
+                bytesDue(x, net, net < gone ? net : net + 1);
             }
             due("no more", x.netOf(15, 0), NONE);
-            due("in one less", x.cellOf(0, 7), 15);
+            due("in one less", x.cellOf(gone % 2, 7), 7);
+            due("the other one is not", x.cellOf(1 - gone % 2, 7), 8);
             due("undone", x.undo(), 4);
-            due("it is back", x.netOf(gone, 13), gone % 8);
-            due("the last", x.netOf(15, 13), 7);
+            for (int net = 0; net < 16; net++) {
+                bytesDue(x, net, net);
+            }
         }
+    }
+
+    private static void bytesDue(CellRows x, int net, int number) {
+        due("cell of net " + net, x.netOf(net, 10), number % 2);
+        due("row of net " + net, x.netOf(net, 12), 200 + number / 8);
+        due("site of net " + net, x.netOf(net, 13), number % 8);
     }
 
     private static void promise9HowManyPins() {

@@ -206,6 +206,8 @@ final class EdgesOfPasses extends Checks {
         promise16LeftOfLikeOnes();
         promise16DownOfLikeOnes();
         promise16LeftAheadOfDown();
+        promise16EachWay();
+        promise16LeastCost();
         promise16NotHeld();
         promise16HeldEach();
         promise16Steps();
@@ -275,6 +277,55 @@ final class EdgesOfPasses extends Checks {
         // the bin where it is has no supply: 256 over; by 8 to the left or down 128 over
         due("won", x.spread(1), 4 * 128);
         wantDue(x, 0, 120, 32);
+    }
+
+    /** One cell of one site at a corner of the four bins, these rows and sites barred; what one round of 8 does. */
+    private static void stepDue(int[] barred, int[] from, int[] to) {
+        CellRows x = withCells(4, 16, 1);
+        x.block(barred[0], barred[1], barred[2], barred[3], 0);
+        x.terms(3, 8);
+        x.want(0, from[0], from[1]);
+        due("half of it is over no more", x.spread(1), 4 * 128);
+        wantDue(x, 0, to[0], to[1]);
+    }
+
+    private static void promise16EachWay() {
+        says(16, "to the left, to the right, down, up");
+        stepDue(new int[] {0, 3, 8, 15}, new int[] {128, 16}, new int[] {120, 16});
+        stepDue(new int[] {0, 3, 0, 7}, new int[] {112, 16}, new int[] {120, 16});
+        stepDue(new int[] {2, 3, 0, 15}, new int[] {112, 32}, new int[] {112, 24});
+        stepDue(new int[] {0, 1, 0, 15}, new int[] {112, 16}, new int[] {112, 24});
+        // two ways are alike: the one that is named first
+        stepDue(new int[] {0, 1, 0, 7}, new int[] {112, 16}, new int[] {120, 16});
+        stepDue(new int[] {0, 1, 8, 15}, new int[] {128, 16}, new int[] {120, 16});
+        stepDue(new int[] {2, 3, 0, 7}, new int[] {112, 32}, new int[] {120, 32});
+    }
+
+    /** A cell in row 2, where all is barred, with its pin on a pad: down by one costs wire, and less is over. */
+    private static CellRows tornDown(int width, int pressure) {
+        CellRows x = withCells(4, 8, width);
+        x.block(2, 3, 0, 7, 0);
+        x.terms(0, 1);
+        x.terms(2, pressure);
+        x.terms(3, 1);
+        x.terms(4, 8);
+        x.want(0, 0, 32);
+        net(x, 9, 0, 0, 202, 0);
+        return x;
+    }
+
+    private static void promise16LeastCost() {
+        says(16, "COST: 16 times SMOOTH and PRESSURE times OVERFLOW.");
+        // 16 times 8 times 9 is 16 times 72 of wire; 16 times WIDTH times PRESSURE is won
+        CellRows less = tornDown(5, 14);
+        due("70 for 72", less.spread(1), 0);
+        wantDue(less, 0, 0, 32);
+        CellRows like = tornDown(6, 12);
+        due("72 for 72", like.spread(1), 0);
+        wantDue(like, 0, 0, 32);
+        CellRows more = tornDown(5, 15);
+        due("75 for 72", more.spread(1), 16 * 3);
+        wantDue(more, 0, 0, 31);
     }
 
     private static void promise16NotHeld() {
@@ -358,6 +409,8 @@ final class EdgesOfPasses extends Checks {
         promise17NoRoom();
         promise17NoRunWithRoom();
         promise17LeastWithItLessWithoutIt();
+        promise17WithWhatWasThere();
+        promise17InManyRuns();
         promise17RisingXThenNumber();
         promise17FirstOfLikeRuns();
         promise17Leftmost();
@@ -465,6 +518,59 @@ final class EdgesOfPasses extends Checks {
         return made;
     }
 
+    private static void promise17WithWhatWasThere() {
+        says(17, "the RUN's LEAST with it less that without it");
+        CellRows x = withCells(2, 8, 6, 2);
+        x.terms(4, 8);
+        x.want(0, 17, 0);
+        x.want(1, 17, 0);
+        // in row 0: 102 less 6 for the other one and 2 * 79: 254; in row 1: 2 and 256
+        due("moves", x.lawfully(0), 102 + 158);
+        due("moves", x.legal(), 102 + 158);
+        spotDue(x, 0, 0, 0);
+        spotDue(x, 1, 0, 6);
+        due("once more", x.legal(), 102 + 158);
+        spotDue(x, 1, 0, 6);
+    }
+
+    /** 11 runs in each of 8 rows: 4, 4, 4, 2, 1, 1, 1, 5 of none, 2 of each fence. */
+    static CellRows manyRuns() {
+        CellRows x = new CellRows(8, 32);
+        for (int i = 0; i < 3; i++) {
+            x.fence(0, 7, 6 * i + 4, 6 * i + 5);
+        }
+        for (int i = 0; i < 4; i++) {
+            x.block(0, 7, 2 * i + 20, 2 * i + 20, 0);
+        }
+        return x;
+    }
+
+    private static void promise17InManyRuns() {
+        says(17, "of its FENCE, by rising ROWS, from the left");
+        CellRows x = manyRuns();
+        x.cell(5, NONE);
+        x.cell(2, 2);
+        x.cell(1, NONE);
+        x.cell(2, 0);
+        x.want(0, 16 * 27, 112);
+        x.want(1, 16 * 16, 112);
+        x.want(2, 16 * 25, 112);
+        x.want(3, 16 * 4, 0);
+        due("each where it wants to be", x.legal(), 0);
+        spotDue(x, 0, 7, 27);
+        spotDue(x, 1, 7, 16);
+        spotDue(x, 2, 7, 25);
+        spotDue(x, 3, 0, 4);
+        CellRows y = withCells(2, 8, 1, 1);
+        y.block(1, 1, 0, 7, 0);
+        y.want(0, 0, 0);
+        y.want(1, 0, 16);
+        // 1 can't lie in row 1: 0 and 64 at 1 of row 0, 16 and 64
+        due("rows that are not barred alone", y.legal(), 16 + 64);
+        spotDue(y, 0, 0, 0);
+        spotDue(y, 1, 0, 1);
+    }
+
     private static void promise17LeastWithItLessWithoutIt() {
         says(17, "the first of like ones: the RUN's LEAST with it less that without it, and WIDTH times TALL times how far 16 "
                 + "times ROW is from its WANT's y.");
@@ -491,6 +597,14 @@ final class EdgesOfPasses extends Checks {
         due("one less", x.legal(), 15);
         spotDue(x, 0, 0, 2);
         spotDue(x, 1, 0, 1);
+        CellRows falling = withCells(1, 8, 1, 1, 1, 1);
+        for (int cell = 0; cell < 4; cell++) {
+            falling.want(cell, 64 - 16 * cell, 0);
+        }
+        due("each where it wants to be", falling.legal(), 0);
+        for (int cell = 0; cell < 4; cell++) {
+            spotDue(falling, cell, 0, 4 - cell);
+        }
     }
 
     private static void promise17FirstOfLikeRuns() {
@@ -618,6 +732,12 @@ final class EdgesOfPasses extends Checks {
         due("one is no window of 2", one.windows(2), 0);
         spotDue(one, 0, 0, 5);
         due("no cells", new CellRows(2, 8).windows(2), 0);
+        CellRows carried = inARow(4);
+        net(carried, 1, 0, 0, 200, 15);
+        due("one is carried on from window to window", carried.windows(2), 48);
+        spotDue(carried, 0, 0, 3);
+        spotDue(carried, 1, 0, 0);
+        spotDue(carried, 3, 0, 2);
     }
 
     private static void promise18GapsStayInTheirOrder() {
@@ -651,6 +771,14 @@ final class EdgesOfPasses extends Checks {
         spotDue(x, 0, 0, 0);
         spotDue(x, 2, 0, 1);
         spotDue(x, 1, 0, 2);
+        for (int last = 1; last < 4; last++) {
+            CellRows four = inARow(4);
+            net(four, 1, last, 0, 200, 0);
+            due("one of four to the left, the others as they lay", four.windows(4), 16 * last);
+            for (int cell = 0; cell < 4; cell++) {
+                spotDue(four, cell, 0, cell == last ? 0 : cell < last ? cell + 1 : cell);
+            }
+        }
     }
 
     private static void promise18RunByRun() {
@@ -861,6 +989,7 @@ final class EdgesOfPasses extends Checks {
     private static void sorts() {
         promise21FiveAtMost();
         promise21NoNetInCommon();
+        promise21SoThatWireIsLeast();
         promise21OfThatFenceAndWidth();
         promise21OfLikeOnesTheFirst();
         promise21LooseWithSpots();
@@ -880,7 +1009,9 @@ final class EdgesOfPasses extends Checks {
         CellRows five = inARow(5);
         net(five, 1, 4, 0, 200, 0);
         due("the fifth is in it", five.sorts(), 64);
-        spotDue(five, 4, 0, 0);
+        for (int cell = 0; cell < 5; cell++) {
+            spotDue(five, cell, 0, (cell + 1) % 5);
+        }
         CellRows six = inARow(6);
         net(six, 1, 5, 0, 200, 0);
         due("the sixth is not", six.sorts(), 0);
@@ -912,6 +1043,29 @@ final class EdgesOfPasses extends Checks {
         CellRows z = inARow(2);
         net(z, 1, 0, 0, 1, 0, 200, 9);
         due("two with a net in common are no group", z.sorts(), 0);
+    }
+
+    private static void promise21SoThatWireIsLeast() {
+        says(21, "their SPOTS are given to them so that WIRE is least");
+        CellRows x = withCells(5, 16, 1, 1, 1, 1, 1);
+        for (int cell = 0; cell < 5; cell++) {
+            x.put(cell, cell, 3 * cell);
+            int goal = (2 * cell + 1) % 5;
+            net(x, 1 + cell, cell, 0, 200 + goal, 3 * goal);
+        }
+        int was = x.measure(0);
+        due("each where its pad is", x.sorts(), was);
+        for (int cell = 0; cell < 5; cell++) {
+            spotDue(x, cell, (2 * cell + 1) % 5, 3 * ((2 * cell + 1) % 5));
+        }
+        CellRows y = inARow(2);
+        net(y, 1, 0, 0, 200, 15);
+        net(y, 2, 1, 0, 200, 15);
+        due("the heavier one stays", y.sorts(), 0);
+        net(y, 2, 0, 0, 200, 15);
+        due("now the other one is heavier", y.sorts(), 16);
+        spotDue(y, 0, 0, 1);
+        spotDue(y, 1, 0, 0);
     }
 
     private static void promise21OfThatFenceAndWidth() {
@@ -1088,6 +1242,13 @@ final class EdgesOfPasses extends Checks {
         for (int cell = 0; cell < 3; cell++) {
             spotDue(y, cell, 0, 3 * cell);
         }
+        CellRows rows = withCells(2, 8, 1, 1);
+        rows.put(0, 0, 3);
+        rows.put(1, 1, 3);
+        // the seed 1 draws 0 and 1
+        due("two rows: ahead of any try", rows.shake(1, 1, 0), 0);
+        spotDue(rows, 0, 0, 3);
+        spotDue(rows, 1, 1, 3);
         // 0 and 1, then 1 and 2: 0 is at 3 after the first and stays there: the first time counts
         CellRows z = withCells(1, 8, 1, 1, 1);
         for (int cell = 0; cell < 3; cell++) {

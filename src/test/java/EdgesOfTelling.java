@@ -172,6 +172,9 @@ final class EdgesOfTelling extends Checks {
     private static void promise25SmoothOnGamma() {
         says(25, "4096 halved as often as GAMMA goes into how far");
         due("far 0", smooth(16, 0), 0);
+        // 243 * 512 / 4608 is just 27
+        due("just a whole number", smooth(64, 243), 243 - 54);
+        due("one less", smooth(64, 242), 242 - 52);
         // 15 * 4096 / 8192 = 7; 16 * 2048 / 6144 = 5; 31 / 3 = 10; 32 / 5 = 6
         due("one short of once", smooth(16, 15), 15 - 14);
         due("once", smooth(16, 16), 16 - 10);
@@ -941,6 +944,9 @@ final class EdgesOfTelling extends Checks {
         due("not across a fence: 2", x.fillers(2), 3);
         due("not across a fence: 1", x.fillers(1), 4);
         due("sixteen gaps of one", everySecondFixed().fillers(1), 16);
+        due("88 runs: 4", EdgesOfPasses.manyRuns().fillers(4), 8 * 4);
+        due("88 runs: 2", EdgesOfPasses.manyRuns().fillers(2), 8 * 4);
+        due("88 runs: 1", EdgesOfPasses.manyRuns().fillers(1), 8 * 4);
         due("a full row", fullRow().fillers(1), 0);
     }
 
