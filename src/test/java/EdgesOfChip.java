@@ -645,6 +645,13 @@ final class EdgesOfChip extends Checks {
         refused(-5, "the 17th", EdgesOfChip::sixteenNets, one -> one.net(1));
         due("the first goes", x.drop(0), 2);
         due("then there is room for one", net(x, 1, 0, 0, 1, 0), 15);
+        CellRows full = withCells(2, 8, 1, 1, 1, 1, 1, 1);
+        for (int number = 0; number < 16; number++) {
+            due("of six pins each", net(full, 9, 0, 0, 1, 0, 2, 0, 3, 0, 4, 0, 5, 0), number);
+        }
+        due("the last pin of the last", full.netOf(15, 20), 5);
+        due("the first goes", full.drop(0), 6);
+        due("the last pin of the last", full.netOf(14, 20), 5);
     }
 
     private static void promise8WeightOneToNine() {

@@ -679,6 +679,7 @@ final class EdgesOfPasses extends Checks {
     private static void windows() {
         promise18TwoToFour();
         promise18AnyKSideBySide();
+        promise18TwentyInOneRun();
         promise18GapsStayInTheirOrder();
         promise18FirstByTheirPlaces();
         promise18RunByRun();
@@ -738,6 +739,21 @@ final class EdgesOfPasses extends Checks {
         spotDue(carried, 0, 0, 3);
         spotDue(carried, 1, 0, 0);
         spotDue(carried, 3, 0, 2);
+    }
+
+    private static void promise18TwentyInOneRun() {
+        says(18, "any k side by side, from the left on");
+        for (int k = 2; k <= 4; k++) {
+            CellRows x = twentyInARow();
+            for (int cell = 0; cell < 20; cell++) {
+                x.put(cell, 0, cell);
+            }
+            net(x, 1, 19, 0, 200, 0);
+            due("the last one comes as far ahead as its window goes", x.windows(k), 16 * (k - 1));
+            due("where it lies", x.cellOf(19, 6), 20 - k);
+            due("the one ahead of it lies last", x.cellOf(18, 6), 19);
+            due("the first lies as it did", x.cellOf(0, 6), 0);
+        }
     }
 
     private static void promise18GapsStayInTheirOrder() {
@@ -907,6 +923,7 @@ final class EdgesOfPasses extends Checks {
         promise20LowestRowFirstSite();
         promise20LawfulOnes();
         promise20CellByCell();
+        promise20InSixteenNets();
     }
 
     private static void promise20IfLessThanNow() {
@@ -967,6 +984,27 @@ final class EdgesOfPasses extends Checks {
         x.fix(0, 0, 10);
         due("a fixed one stays", x.hops(), 0);
         spotDue(x, 0, 0, 10);
+    }
+
+    private static void promise20InSixteenNets() {
+        says(20, "each LOOSE one with a SPOT");
+        CellRows x = withCells(1, 32, 1, 1);
+        x.put(0, 0, 31);
+        x.put(1, 0, 0);
+        for (int number = 0; number < 16; number++) {
+            net(x, 1, 0, 0, 200, number);
+        }
+        // seven pads to the left of it and eight to the right, or eight and seven: at 7 or at 8
+        due("what it would be", x.would(0, 0, 7), 16 * (28 + 36));
+        due("the first best one", x.best(0, 0), 7);
+        due("the last best one", x.best(0, 1), 8);
+        due("hops", x.hops(), 16 * (31 * 16 - 120) - 16 * 64);
+        spotDue(x, 0, 0, 7);
+        x.put(0, 0, 31);
+        x.put(1, 0, 7);
+        due("sorts", x.sorts(), 16 * (31 * 16 - 120) - 16 * 64);
+        spotDue(x, 0, 0, 7);
+        spotDue(x, 1, 0, 31);
     }
 
     private static void promise20CellByCell() {

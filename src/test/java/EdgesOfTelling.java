@@ -118,6 +118,7 @@ final class EdgesOfTelling extends Checks {
         promise25SpotsAndWants();
         promise25SmoothOnGamma();
         promise25SmoothThirteenTimes();
+        promise25SmoothJustShort();
         promise25SmoothShiftsDoNotWrap();
         promise25SmoothByWants();
         promise25Pins();
@@ -188,11 +189,11 @@ final class EdgesOfTelling extends Checks {
         due("GAMMA 1: three times", smooth(1, 3), 3);
     }
 
-    private static int smoothOfThree(int left) {
+    private static int smoothOfThree(int gamma, int left, int middle) {
         CellRows x = withCells(1, 32, 1, 1);
-        x.terms(0, 38);
+        x.terms(0, gamma);
         x.want(0, left, 0);
-        x.want(1, 237, 0);
+        x.want(1, middle, 0);
         net(x, 1, 0, 0, 1, 0, 200, 31);
         return x.netOf(0, 3);
     }
@@ -201,9 +202,16 @@ final class EdgesOfTelling extends Checks {
         says(25, "(13 times or more: 0), quotients downwards");
         // pins at 504, 245 and 11: 259 far has 64 (6 times), 493 far has 1 (12 times): 17069 / 4161 = 4;
         // from the left 234 far has 64, 493 far has 1: 15469 / 4161 = 3
-        due("one short of 13 times", smoothOfThree(3), 493 - 4 - 3);
+        due("one short of 13 times", smoothOfThree(38, 3, 237), 493 - 4 - 3);
         // 494 far has none: 16576 / 4160 = 3; from the left 235 * 64 / 4160 = 3
-        due("13 times", smoothOfThree(2), 494 - 3 - 3);
+        due("13 times", smoothOfThree(38, 2, 237), 494 - 3 - 3);
+    }
+
+    private static void promise25SmoothJustShort() {
+        says(25, "quotients downwards: (sum of far times SHARE) by (sum of SHARES)");
+        // pins at 504, 251 and 53: 253 far has 64, 451 far has 1: 16643 / 4161 is one short of 4;
+        // from the left 198 far has 128, 451 far has 1: 25795 / 4225 = 6
+        due("one short of 4", smoothOfThree(37, 45, 243), 451 - 3 - 6);
     }
 
     private static void promise25SmoothShiftsDoNotWrap() {
