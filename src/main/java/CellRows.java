@@ -753,11 +753,14 @@ public final class CellRows {
             size = other.size;
             System.arraycopy(other.width, 0, width, 0, MOST_CELLS);
             System.arraycopy(other.fence, 0, fence, 0, MOST_CELLS);
-            System.arraycopy(other.fixed, 0, fixed, 0, MOST_CELLS);
             System.arraycopy(other.wantX, 0, wantX, 0, MOST_CELLS);
             System.arraycopy(other.wantY, 0, wantY, 0, MOST_CELLS);
             System.arraycopy(other.row, 0, row, 0, MOST_CELLS);
             System.arraycopy(other.site, 0, site, 0, MOST_CELLS);
+            // the library's copies are for arrays of numbers
+            for (int cell = 0; cell < MOST_CELLS; cell++) {
+                fixed[cell] = other.fixed[cell];
+            }
         }
 
         void add(int newWidth, int newFence, int x, int y) {

@@ -22,6 +22,8 @@ public final class RulesTest {
         face();
         String code = withoutComments(Files.readString(Path.of(SOURCE)));
         words(code);
+        library(code);
+        namesInside();
         shortMethods(code);
         fewFields();
         roomOfOneObject();
@@ -82,6 +84,30 @@ public final class RulesTest {
             hold(nested.group().contains("static"), "static classes inside: " + nested.group().trim());
         }
         hold(classes <= 12, "some twelve classes, not " + classes);
+    }
+
+    /** Rule 4: nothing of the library but what it lists (here: what of that the class has use for), over numbers alone. */
+    private static void library(String code) {
+        Set<String> listed = Set.of("Math.max", "Math.min", "Math.abs", "Math.floorDiv", "System.arraycopy");
+        Matcher call = Pattern.compile("\\b(Math|System|Integer|Long|Arrays|List|String|Object|Runtime|Thread)\\.\\w+").matcher(code);
+        while (call.find()) {
+            hold(listed.contains(call.group()), "of the library " + call.group());
+        }
+        Matcher flags = Pattern.compile("boolean\\[\\] (\\w+)").matcher(code);
+        while (flags.find()) {
+            hold(!Pattern.compile("arraycopy\\([^;]*\\b" + flags.group(1) + "\\b").matcher(code).find(),
+                    "copies of arrays of numbers alone, not of " + flags.group(1));
+        }
+    }
+
+    /** Rule 1: no private method has the name of a public one, in the classes inside neither. */
+    private static void namesInside() {
+        for (Class<?> inside : CellRows.class.getDeclaredClasses()) {
+            for (var method : inside.getDeclaredMethods()) {
+                String name = method.getName();
+                hold(FACE.stream().noneMatch(one -> one.startsWith(name + "/")), "a name of its own: " + name);
+            }
+        }
     }
 
     private static void shortMethods(String code) {
